@@ -26,6 +26,10 @@ final class Due {
         }
     }
 
+    static int wrong() {
+        return wrong;
+    }
+
     static void end() {
         System.out.println(seen + " answers seen, " + wrong + " of them wrong");
         if (wrong != 0 || seen == 0) {

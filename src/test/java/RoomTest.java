@@ -1,3 +1,5 @@
+import com.sun.management.ThreadMXBean;
+import java.lang.management.ManagementFactory;
 import java.lang.reflect.Array;
 import java.lang.reflect.Field;
 import java.lang.reflect.Modifier;
@@ -24,7 +26,33 @@ public final class RoomTest {
         long[] later = sizeOf(mesh);
         Due.is("objects later", atFirst[0], later[0]);
         Due.is("fields and elements later", atFirst[1], later[1]);
+        callsMakeNoObjects();
         Due.end();
+    }
+
+    private static void callsMakeNoObjects() {
+        callAll(new WormMesh(3, 3, 4, 2));
+        WormMesh mesh = new WormMesh(3, 3, 4, 2);
+        ThreadMXBean bean = (ThreadMXBean) ManagementFactory.getThreadMXBean();
+        long before = bean.getCurrentThreadAllocatedBytes();
+        callAll(mesh);
+        long made = bean.getCurrentThreadAllocatedBytes() - before;
+        // Less than a byte for each tick: the measuring itself may make a little.
+        Due.is("bytes made by calls: " + made, true, made < 2000);
+    }
+
+    private static void callAll(WormMesh mesh) {
+        for (int i = 0; i < 45; i++) {
+            mesh.request(i % 9, i / 9 % 9, i % 2 == 0, i % 8, i);
+            mesh.hold(i % 9, i % 4 == 0);
+            mesh.run(60);
+            mesh.reply(i, i % 3);
+            mesh.memory(i % 9, i % 8);
+            mesh.waiting(i % 9);
+            mesh.lane(i % 9, i % 5, i % 4);
+            mesh.output(i % 9, i % 5, i % 4);
+            mesh.arrival(i % 9, i % 4);
+        }
     }
 
     private static long[] sizeOf(Object root) throws IllegalAccessException {
