@@ -7,6 +7,23 @@ import java.util.TreeSet;
 
 /** The public face: the members of the document, none more, and no exception from any of them. */
 public final class FaceTest {
+    private static final String[] FACE = {
+        "public WormMesh(int,int,int,int)",
+        "public boolean WormMesh.hold(int,boolean)",
+        "public int WormMesh.arrival(int,int)",
+        "public int WormMesh.lane(int,int,int)",
+        "public int WormMesh.memory(int,int)",
+        "public int WormMesh.nodes()",
+        "public int WormMesh.output(int,int,int)",
+        "public int WormMesh.replies()",
+        "public int WormMesh.reply(int,int)",
+        "public int WormMesh.request(int,int,boolean,int,int)",
+        "public int WormMesh.run(int)",
+        "public int WormMesh.sent()",
+        "public int WormMesh.ticks()",
+        "public int WormMesh.waiting(int)",
+        "public static final int WormMesh.BAD",
+        "public static final int WormMesh.FULL"};
     private static final int[] ODD =
             {Integer.MIN_VALUE, -61, -9, -1, 0, 1, 2, 3, 4, 5, 8, 9, 60, 61, Integer.MAX_VALUE};
 
@@ -23,23 +40,20 @@ public final class FaceTest {
     private static void members() {
         Set<String> seen = new TreeSet<>();
         for (Field field : WormMesh.class.getDeclaredFields()) {
-            add(seen, field.getModifiers(), field.getName());
+            add(seen, field.getModifiers(), field.toString());
         }
         for (Constructor<?> constructor : WormMesh.class.getDeclaredConstructors()) {
-            add(seen, constructor.getModifiers(), "new" + constructor.getParameterCount());
+            add(seen, constructor.getModifiers(), constructor.toString());
         }
         for (Method method : WormMesh.class.getDeclaredMethods()) {
-            add(seen, method.getModifiers(), method.getName() + method.getParameterCount());
+            add(seen, method.getModifiers(), method.toString());
         }
-        Due.is("members that are not private",
-                "[BAD, FULL, arrival2, hold2, lane3, memory2, new4, nodes0, output3, replies0,"
-                        + " reply2, request5, run1, sent0, ticks0, waiting1]",
-                seen.toString());
+        Due.is("members that are not private", String.join("; ", FACE), String.join("; ", seen));
     }
 
-    private static void add(Set<String> seen, int modifiers, String name) {
+    private static void add(Set<String> seen, int modifiers, String text) {
         if (!Modifier.isPrivate(modifiers)) {
-            seen.add(name);
+            seen.add(text);
         }
     }
 

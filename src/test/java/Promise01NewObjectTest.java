@@ -1,48 +1,65 @@
 /** Promise 1: the measures are brought within their bounds, and all is empty at first. */
 public final class Promise01NewObjectTest {
-    private static final int[] MEASURES =
-            {Integer.MIN_VALUE, -1, 0, 1, 2, 3, 4, 5, Integer.MAX_VALUE};
+    private static final int[] TOO_SMALL = {0, -1, -2, Integer.MIN_VALUE};
+    private static final int[] TOO_LARGE_FOR_3 = {4, 5, 100, Integer.MAX_VALUE};
+    private static final int[] TOO_LARGE_FOR_4 = {5, 6, 100, Integer.MAX_VALUE};
+    private static final int[] TOO_LARGE_FOR_2 = {3, 4, 100, Integer.MAX_VALUE};
 
     public static void main(String[] args) {
-        measures();
-        columnsAndRows();
+        measures("within the bounds", 1, 2, 3, 2, 1, 2, 3, 2);
+        measures("least", 1, 1, 1, 1, 1, 1, 1, 1);
+        measures("greatest", 3, 3, 4, 2, 3, 3, 4, 2);
+        for (int wrong : TOO_SMALL) {
+            measures("width too small", wrong, 2, 2, 2, 1, 2, 2, 2);
+            measures("height too small", 2, wrong, 2, 2, 2, 1, 2, 2);
+            measures("depth too small", 2, 2, wrong, 2, 2, 2, 1, 2);
+            measures("channels too small", 2, 2, 2, wrong, 2, 2, 2, 1);
+            measures("all too small", wrong, wrong, wrong, wrong, 1, 1, 1, 1);
+        }
+        for (int wrong : TOO_LARGE_FOR_3) {
+            measures("width too large", wrong, 2, 2, 1, 3, 2, 2, 1);
+            measures("height too large", 2, wrong, 2, 1, 2, 3, 2, 1);
+        }
+        for (int wrong : TOO_LARGE_FOR_4) {
+            measures("depth too large", 2, 1, wrong, 1, 2, 1, 4, 1);
+        }
+        for (int wrong : TOO_LARGE_FOR_2) {
+            measures("channels too large", 2, 1, 1, wrong, 2, 1, 1, 2);
+        }
+        measures("all too large", 4, 4, 5, 3, 3, 3, 4, 2);
+        everyMeasureWithin();
         emptyAtFirst();
         Due.end();
     }
 
-    private static int within(int value, int most) {
-        return value < 1 ? 1 : value > most ? most : value;
-    }
-
-    private static void measures() {
-        for (int a : MEASURES) {
-            for (int b : MEASURES) {
-                WormMesh mesh = new WormMesh(a, b, 1, 1);
-                Due.is("nodes of " + a + " x " + b, within(a, 3) * within(b, 3), mesh.nodes());
-                mesh = new WormMesh(1, 1, a, b);
-                int depth = within(a, 4);
-                int channels = 2 * within(b, 2);
-                Due.is("credits, depth " + a, depth, mesh.output(0, 0, 0));
-                Due.is("sender, depth " + a, 8 * depth, mesh.arrival(0, 0));
-                Due.is("last channel of " + b, depth, mesh.output(0, 4, channels - 1));
-                Due.is("channel too many of " + b, WormMesh.BAD, mesh.output(0, 4, channels));
+    private static void everyMeasureWithin() {
+        for (int w = 1; w <= 3; w++) {
+            for (int h = 1; h <= 3; h++) {
+                for (int d = 1; d <= 4; d++) {
+                    for (int v = 1; v <= 2; v++) {
+                        measures("every", w, h, d, v, w, h, d, v);
+                    }
+                }
             }
         }
     }
 
-    /** Width and height are told apart by the way that a packet to node 1 or 2 takes. */
-    private static void columnsAndRows() {
-        Due.is("3 x 1, to node 1", 1, firstWay(new WormMesh(3, 1, 2, 1), 1));
-        Due.is("1 x 3, to node 1", 3, firstWay(new WormMesh(1, 3, 2, 1), 1));
-        Due.is("3 x 2, to node 2", 1, firstWay(new WormMesh(3, 2, 2, 1), 2));
-        Due.is("2 x 3, to node 2", 3, firstWay(new WormMesh(2, 3, 2, 1), 2));
-        Due.is("9 x 2, to node 3", 3, firstWay(new WormMesh(9, 2, 2, 1), 3));
-    }
-
-    private static int firstWay(WormMesh mesh, int to) {
-        mesh.request(0, to, false, 0, 0);
+    /** A mesh that is made with width, height, depth and channels has W, H, D and V. */
+    private static void measures(String what, int width, int height, int depth, int channels,
+            int w, int h, int d, int v) {
+        WormMesh mesh = new WormMesh(width, height, depth, channels);
+        String name = what + " (" + width + ", " + height + ", " + depth + ", " + channels + ") ";
+        Due.is(name + "nodes", w * h, mesh.nodes());
+        Due.is(name + "credits of an output", d, mesh.output(0, 0, 0));
+        Due.is(name + "credits of a sender", 8 * d, mesh.arrival(0, 0));
+        Due.is(name + "last channel", d, mesh.output(0, 4, 2 * v - 1));
+        Due.is(name + "a channel too many", WormMesh.BAD, mesh.output(0, 4, 2 * v));
+        Due.is(name + "last node", 0, mesh.request(w * h - 1, 0, true, 0, 1));
+        // The way from the last node tells columns from rows.
         mesh.run(2);
-        return mesh.lane(0, 0, 0) / 64;
+        int channel = (w * h - 1) % v;
+        int way = w > 1 ? 2 : h > 1 ? 4 : 0;
+        Due.is(name + "way", 64 * way, mesh.lane(w * h - 1, 0, channel) / 64 * 64);
     }
 
     private static void emptyAtFirst() {

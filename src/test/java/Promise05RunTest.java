@@ -1,37 +1,88 @@
 /** Promise 5: ticks go by, and the replies that became complete in them are counted. */
 public final class Promise05RunTest {
     public static void main(String[] args) {
-        bounds();
-        counts();
+        tooSmall();
+        tooLarge();
+        noTick();
+        oneTick();
+        sixtyTicks();
+        onlyThoseOfThisRun();
+        severalInOneTick();
         oneLongRunIsManyShortOnes();
         Due.end();
     }
 
-    private static void bounds() {
+    private static WormMesh busy() {
         WormMesh mesh = new WormMesh(2, 1, 2, 1);
         mesh.request(0, 1, true, 0, 1);
         mesh.run(1);
-        String before = State.of(mesh);
-        for (int wrong : new int[] {Integer.MIN_VALUE, -2, -1, 61, 62, Integer.MAX_VALUE}) {
-            Due.is("run(" + wrong + ")", WormMesh.BAD, mesh.run(wrong));
-        }
-        Due.is("run(0)", 0, mesh.run(0));
-        Due.is("state after refusals and no tick", before, State.of(mesh));
-        Due.is("run(60)", 1, mesh.run(60));
-        Due.is("ticks()", 61, mesh.ticks());
+        return mesh;
     }
 
-    /** Reads and writes of a node to itself are complete with tick 11. */
-    private static void counts() {
-        WormMesh mesh = new WormMesh(2, 1, 4, 1);
+    private static void isRefused(int n) {
+        WormMesh mesh = busy();
+        String before = State.of(mesh);
+        Due.is("run(" + n + ")", WormMesh.BAD, mesh.run(n));
+        Due.is("state after run(" + n + ")", before, State.of(mesh));
+    }
+
+    /** "BAD when n is not 0 .. 60": less than 0. */
+    private static void tooSmall() {
+        for (int wrong : new int[] {-1, -2, -60, Integer.MIN_VALUE}) {
+            isRefused(wrong);
+        }
+    }
+
+    /** "BAD when n is not 0 .. 60": more than 60. */
+    private static void tooLarge() {
+        for (int wrong : new int[] {61, 62, 120, Integer.MAX_VALUE}) {
+            isRefused(wrong);
+        }
+    }
+
+    /** 0 is within the bounds: no tick goes by, and nothing changes. */
+    private static void noTick() {
+        WormMesh mesh = busy();
+        String before = State.of(mesh);
+        Due.is("run(0)", 0, mesh.run(0));
+        Due.is("state after no tick", before, State.of(mesh));
+    }
+
+    private static void oneTick() {
+        WormMesh mesh = busy();
+        Due.is("run(1)", 0, mesh.run(1));
+        Due.is("ticks()", 2, mesh.ticks());
+    }
+
+    /** 60 is within the bounds. */
+    private static void sixtyTicks() {
+        WormMesh mesh = busy();
+        Due.is("run(60)", 1, mesh.run(60));
+        Due.is("ticks()", 61, mesh.ticks());
+        Due.is("run(60)", 0, mesh.run(60));
+        Due.is("ticks()", 121, mesh.ticks());
+    }
+
+    /** "how many replies became complete in them": not in the ticks before. */
+    private static void onlyThoseOfThisRun() {
+        WormMesh mesh = new WormMesh(1, 1, 4, 1);
         mesh.request(0, 0, false, 0, 0);
-        mesh.request(1, 1, true, 0, 0);
         Due.is("run(10)", 0, mesh.run(10));
-        Due.is("run(1)", 2, mesh.run(1));
+        Due.is("run(1)", 1, mesh.run(1));
+        Due.is("run(0)", 0, mesh.run(0));
         Due.is("run(60)", 0, mesh.run(60));
         mesh.request(0, 0, false, 0, 0);
         Due.is("run(11)", 1, mesh.run(11));
-        Due.is("replies()", 3, mesh.replies());
+        Due.is("replies()", 2, mesh.replies());
+    }
+
+    private static void severalInOneTick() {
+        WormMesh mesh = new WormMesh(3, 3, 4, 1);
+        for (int node = 0; node < 9; node++) {
+            mesh.request(node, node, node % 2 == 0, 0, 0);
+        }
+        Due.is("run(10)", 0, mesh.run(10));
+        Due.is("run(1)", 9, mesh.run(1));
     }
 
     private static void oneLongRunIsManyShortOnes() {

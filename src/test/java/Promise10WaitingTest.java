@@ -1,83 +1,89 @@
 /** Promise 10: how many requests and replies wait at a node. */
 public final class Promise10WaitingTest {
     public static void main(String[] args) {
-        bounds();
+        noSuchNode();
+        noSuchNodeBesideOthers();
         requestsWait();
-        repliesGoFirst();
-        atMostTwoRepliesWait();
+        repliesCountEight();
+        fourRequestsAndTwoReplies();
+        fourRequestsBesideTwoReplies();
         Due.end();
     }
 
-    private static void bounds() {
-        WormMesh mesh = new WormMesh(2, 2, 1, 1);
-        for (int wrong : new int[] {Integer.MIN_VALUE, -1, 4, 5, Integer.MAX_VALUE}) {
-            Due.is("waiting(" + wrong + ")", WormMesh.BAD, mesh.waiting(wrong));
-        }
-        Due.is("waiting(3)", 0, mesh.waiting(3));
+    /** "BAD when there is no such node": in meshes of every size. */
+    private static void noSuchNode() {
+        Bounds.ofNodes("waiting", (mesh, node, port, channel) -> mesh.waiting(node));
     }
 
+    /** The first and the last node have requests, but none of them is seen beyond them. */
+    private static void noSuchNodeBesideOthers() {
+        WormMesh mesh = new WormMesh(2, 2, 1, 1);
+        mesh.request(0, 0, true, 0, 1);
+        mesh.request(3, 0, true, 0, 1);
+        Due.is("waiting(-1)", WormMesh.BAD, mesh.waiting(-1));
+        Due.is("waiting(0)", 1, mesh.waiting(0));
+        Due.is("waiting(3)", 1, mesh.waiting(3));
+        Due.is("waiting(4)", WormMesh.BAD, mesh.waiting(4));
+    }
+
+    /**
+     * From none to four, and, with two flits each and no credit in tick 7, to none again. With
+     * tick 9 the first of them is served.
+     */
     private static void requestsWait() {
         WormMesh mesh = new WormMesh(2, 1, 4, 1);
+        Due.is("waiting(1)", 0, mesh.waiting(1));
         for (int i = 1; i <= 4; i++) {
             mesh.request(1, 0, false, 0, 0);
             Due.is("waiting(1)", i, mesh.waiting(1));
         }
-        Due.is("waiting(0)", 0, mesh.waiting(0));
-        int[] afterTick = {4, 3, 3, 2};
-        for (int i = 0; i < 4; i++) {
-            mesh.run(1);
-            Due.is("waiting(1) after tick " + (i + 1), afterTick[i], mesh.waiting(1));
-        }
+        new Watch(mesh)
+                .waiting(1, 4, 3, 3, 2, 2, 1, 1, 1, 0)
+                .waiting(0, 0, 0, 0, 0, 0, 0, 0, 0, 8)
+                .run();
     }
 
-    /** The read is served in tick 6; its reply has two flits and goes before a request. */
-    private static void repliesGoFirst() {
+    /** The read is served in tick 6; its reply has two flits. */
+    private static void repliesCountEight() {
         WormMesh mesh = new WormMesh(1, 1, 4, 1);
         mesh.request(0, 0, false, 0, 0);
         mesh.run(5);
         mesh.request(0, 0, false, 0, 0);
-        mesh.run(1);
-        Due.is("after the reply's first flit", 1 + 8, mesh.waiting(0));
-        Due.is("arrival(0, 0)", 8 * 4, mesh.arrival(0, 0));
-        Due.is("arrival(0, 1)", 8 * 3, mesh.arrival(0, 1));
-        mesh.run(1);
-        Due.is("after its last one", 1, mesh.waiting(0));
-        Due.is("arrival(0, 0)", 8 * 4, mesh.arrival(0, 0));
-        mesh.run(2);
-        Due.is("after the request", 0, mesh.waiting(0));
+        new Watch(mesh).waiting(0, 1 + 8, 1, 1, 0).run();
     }
 
-    /**
-     * Node 2 is held until a flit is the last of its request in both arrival lanes and another
-     * read has come up behind. Two replies then begin to wait in tick 61, and the first of them
-     * gets its second credit in tick 65, too late for the third request's last flit.
-     */
-    private static void atMostTwoRepliesWait() {
-        WormMesh mesh = new WormMesh(3, 1, 1, 2);
-        mesh.hold(2, true);
-        mesh.request(0, 2, false, 0, 0);
-        mesh.request(1, 2, false, 0, 0);
-        mesh.request(0, 2, false, 0, 0);
-        mesh.run(60);
-        Due.is("channel 0", 1 + 8, mesh.arrival(2, 0));
-        Due.is("channel 1", 1 + 8, mesh.arrival(2, 1));
-        Due.is("lane(2, 2, 0)", 1 + 16, mesh.lane(2, 2, 0));
-        Due.is("lane(1, 2, 0)", 1 + 16 + 64, mesh.lane(1, 2, 0));
-        mesh.hold(2, false);
+    /** Node 1 is held with the last flits of two reads, one in each channel. */
+    private static WormMesh twoReadsHeld() {
+        WormMesh mesh = new WormMesh(2, 1, 1, 2);
+        mesh.hold(1, true);
+        mesh.request(0, 1, false, 0, 0);
+        mesh.request(1, 1, false, 0, 0);
+        mesh.run(30);
+        return mesh;
+    }
+
+    /** The most that can wait: with tick 31 two replies begin to wait; the first has sent a flit. */
+    private static void fourRequestsAndTwoReplies() {
+        WormMesh mesh = twoReadsHeld();
+        for (int i = 0; i < 4; i++) {
+            mesh.request(1, 0, false, 0, 0);
+        }
+        mesh.hold(1, false);
         mesh.run(1);
-        Due.is("both are served", 16, mesh.waiting(2));
-        Due.is("that of channel 0 is first", 0, mesh.arrival(2, 2));
-        Due.is("that of channel 1 is not", 8, mesh.arrival(2, 3));
-        mesh.run(3);
-        Due.is("no credit in tick 64", 16, mesh.waiting(2));
-        Due.is("two flits are moved", 2, mesh.sent());
+        Due.is("waiting(1)", 4 + 8 * 2, mesh.waiting(1));
+        Due.is("a fifth", WormMesh.FULL, mesh.request(1, 0, false, 0, 0));
+    }
+
+    /** Replies that wait take no room from the requests. */
+    private static void fourRequestsBesideTwoReplies() {
+        WormMesh mesh = twoReadsHeld();
+        mesh.hold(1, false);
         mesh.run(1);
-        Due.is("one has gone in tick 65", 8, mesh.waiting(2));
-        Due.is("but after the taking", 1 + 8, mesh.arrival(2, 0));
-        mesh.run(1);
-        Due.is("served in tick 66", 16, mesh.waiting(2));
-        Due.is("taken", 8, mesh.arrival(2, 0));
-        Due.is("run(60)", 3, mesh.run(60));
-        Due.is("waiting(2)", 0, mesh.waiting(2));
+        Due.is("waiting(1)", 16, mesh.waiting(1));
+        for (int i = 0; i < 4; i++) {
+            Due.is("request", 2 + i, mesh.request(1, 0, false, 0, 0));
+        }
+        Due.is("waiting(1)", 4 + 8 * 2, mesh.waiting(1));
+        Due.is("a fifth", WormMesh.FULL, mesh.request(1, 0, false, 0, 0));
     }
 }

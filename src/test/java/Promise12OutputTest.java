@@ -1,37 +1,63 @@
 /** Promise 12: credits of the outputs, and whether they are taken. */
 public final class Promise12OutputTest {
     public static void main(String[] args) {
-        bounds();
-        creditsTickByTick();
+        nodeOutOfItsBounds();
+        portOutOfItsBounds();
+        channelOutOfItsBounds();
+        lastOfEach();
+        tickByTick();
+        takenWithoutACredit();
+        notTakenWithoutACredit();
         heldUpPacketKeepsItsOutput();
-        outputPortTurns();
         Due.end();
     }
 
-    private static void bounds() {
-        WormMesh mesh = new WormMesh(2, 1, 3, 1);
-        for (int wrong : new int[] {Integer.MIN_VALUE, -1, 2, 3, Integer.MAX_VALUE}) {
-            Due.is("output(" + wrong + ", 0, 0)", WormMesh.BAD, mesh.output(wrong, 0, 0));
-            Due.is("output(0, 0, " + wrong + ")", WormMesh.BAD, mesh.output(0, 0, wrong));
-        }
-        for (int wrong : new int[] {Integer.MIN_VALUE, -1, 5, 6, Integer.MAX_VALUE}) {
-            Due.is("output(0, " + wrong + ", 0)", WormMesh.BAD, mesh.output(0, wrong, 0));
-        }
-        Due.is("a port without a neighbour", 3, mesh.output(1, 4, 1));
+    /** "BAD when node ... is out of its bounds": in meshes of every size. */
+    private static void nodeOutOfItsBounds() {
+        Bounds.ofNodes("output", WormMesh::output);
+    }
+
+    /** "BAD when ... port (0 .. 4) ... is out of its bounds". */
+    private static void portOutOfItsBounds() {
+        Bounds.ofPorts("output", WormMesh::output);
+    }
+
+    /** "BAD when ... channel is out of its bounds". */
+    private static void channelOutOfItsBounds() {
+        Bounds.ofChannels("output", WormMesh::output);
+    }
+
+    /** SOUTH of node 0 has no neighbour, but has an output all the same. */
+    private static void lastOfEach() {
+        Due.is("output(0, 4, 1)", 1, new WormMesh(1, 1, 1, 1).output(0, 4, 1));
+        Due.is("output(8, 4, 3)", 4, new WormMesh(3, 3, 4, 2).output(8, 4, 3));
+        Due.is("output(5, 4, 1)", 3, new WormMesh(3, 2, 3, 1).output(5, 4, 1));
     }
 
     /** A write to itself: granted in tick 3, moved in 4 to 6, each credit back two ticks later. */
-    private static void creditsTickByTick() {
+    private static void tickByTick() {
         WormMesh mesh = new WormMesh(1, 1, 4, 1);
         mesh.request(0, 0, true, 0, 1);
-        int[] ofRequest = {4, 4, 12, 11, 10, 2, 3, 4, 4, 4, 4, 4};
-        int[] ofReply = {4, 4, 4, 4, 4, 4, 4, 4, 12, 3, 3, 4};
-        for (int i = 0; i < ofRequest.length; i++) {
-            mesh.run(1);
-            String after = " after tick " + (i + 1);
-            Due.is("output(0, 0, 0)" + after, ofRequest[i], mesh.output(0, 0, 0));
-            Due.is("output(0, 0, 1)" + after, ofReply[i], mesh.output(0, 0, 1));
-        }
+        new Watch(mesh)
+                .output(0, 0, 0, 4, 4, 12, 11, 10, 2, 3, 4, 4, 4, 4, 4)
+                .output(0, 0, 1, 4, 4, 4, 4, 4, 4, 4, 4, 12, 3, 3, 4)
+                .run();
+    }
+
+    /** 8 alone: with D = 1 the only credit is used with the first flit, in tick 4. */
+    private static void takenWithoutACredit() {
+        WormMesh mesh = new WormMesh(1, 1, 1, 1);
+        mesh.request(0, 0, false, 0, 0);
+        mesh.run(2);
+        new Watch(mesh).output(0, 0, 0, 1 + 8, 8, 8).run();
+    }
+
+    /** 0: in tick 6 the last flit uses the credit that had come back. */
+    private static void notTakenWithoutACredit() {
+        WormMesh mesh = new WormMesh(1, 1, 1, 1);
+        mesh.request(0, 0, false, 0, 0);
+        mesh.run(5);
+        new Watch(mesh).output(0, 0, 0, 0, 0, 1).run();
     }
 
     private static void heldUpPacketKeepsItsOutput() {
@@ -47,25 +73,5 @@ public final class Promise12OutputTest {
         Due.is("run(60)", 2, mesh.run(60));
         Due.is("output(1, 0, 0)", 1, mesh.output(1, 0, 0));
         Due.is("output(0, 1, 0)", 1, mesh.output(0, 1, 0));
-    }
-
-    /**
-     * A read from node 0 (WEST, channel 1) and one of node 1 to itself (LOCAL, channel 0) have
-     * both got an output of port LOCAL in tick 6. The port takes LOCAL, WEST, LOCAL, WEST.
-     */
-    private static void outputPortTurns() {
-        WormMesh mesh = new WormMesh(2, 1, 4, 2);
-        mesh.request(0, 1, false, 0, 0);
-        mesh.run(3);
-        mesh.request(1, 1, false, 0, 0);
-        mesh.run(3);
-        int[] ofLocal = {12, 11, 11, 3, 3};
-        int[] ofWest = {12, 12, 11, 11, 3};
-        for (int i = 0; i < ofLocal.length; i++) {
-            String after = " after tick " + (i + 6);
-            Due.is("output(1, 0, 0)" + after, ofLocal[i], mesh.output(1, 0, 0));
-            Due.is("output(1, 0, 1)" + after, ofWest[i], mesh.output(1, 0, 1));
-            mesh.run(1);
-        }
     }
 }

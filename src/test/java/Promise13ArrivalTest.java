@@ -1,37 +1,43 @@
 /** Promise 13: flits of the arrival lanes, and credits of the senders. */
 public final class Promise13ArrivalTest {
     public static void main(String[] args) {
-        bounds();
-        creditsTickByTick();
-        aFullArrivalLane();
+        nodeOutOfItsBounds();
+        channelOutOfItsBounds();
+        lastOfEach();
+        tickByTick();
+        fullAndWithoutACredit();
+        emptyAndWithoutACredit();
         Due.end();
     }
 
-    private static void bounds() {
-        WormMesh mesh = new WormMesh(2, 1, 2, 1);
-        for (int wrong : new int[] {Integer.MIN_VALUE, -1, 2, 3, Integer.MAX_VALUE}) {
-            Due.is("arrival(" + wrong + ", 0)", WormMesh.BAD, mesh.arrival(wrong, 0));
-            Due.is("arrival(0, " + wrong + ")", WormMesh.BAD, mesh.arrival(0, wrong));
-        }
-        Due.is("arrival(1, 1)", 16, mesh.arrival(1, 1));
+    /** "BAD when node ... is out of its bounds": in meshes of every size. */
+    private static void nodeOutOfItsBounds() {
+        Bounds.ofNodes("arrival", (mesh, node, port, channel) -> mesh.arrival(node, channel));
+    }
+
+    /** "BAD when ... channel is out of its bounds". */
+    private static void channelOutOfItsBounds() {
+        Bounds.ofChannels("arrival", (mesh, node, port, channel) -> mesh.arrival(node, channel));
+    }
+
+    private static void lastOfEach() {
+        Due.is("arrival(0, 1)", 8, new WormMesh(1, 1, 1, 1).arrival(0, 1));
+        Due.is("arrival(8, 3)", 32, new WormMesh(3, 3, 4, 2).arrival(8, 3));
+        Due.is("arrival(5, 1)", 24, new WormMesh(3, 2, 3, 1).arrival(5, 1));
     }
 
     /** A write to itself: sent in ticks 1 to 3, moved on in 4 to 6, each credit a tick later. */
-    private static void creditsTickByTick() {
+    private static void tickByTick() {
         WormMesh mesh = new WormMesh(1, 1, 4, 1);
         mesh.request(0, 0, true, 0, 1);
-        int[] ofRequest = {3, 2, 1, 1, 2, 3, 4, 4, 4, 4, 4};
-        int[] ofReply = {4, 4, 4, 4, 4, 4, 3, 3, 3, 3, 4};
-        for (int i = 0; i < ofRequest.length; i++) {
-            mesh.run(1);
-            String after = " after tick " + (i + 1);
-            Due.is("arrival(0, 0)" + after, 8 * ofRequest[i], mesh.arrival(0, 0));
-            Due.is("arrival(0, 1)" + after, 8 * ofReply[i], mesh.arrival(0, 1));
-        }
+        new Watch(mesh)
+                .arrival(0, 0, 24, 16, 8, 8, 16, 24, 32, 32, 32, 32, 32)
+                .arrival(0, 1, 32, 32, 32, 32, 32, 32, 24, 24, 24, 24, 32)
+                .run();
     }
 
-    /** Held, the last flit of the first request and two or more of the next stay in the lane. */
-    private static void aFullArrivalLane() {
+    /** Held, the last flit of the first request and all that have room behind it stay there. */
+    private static void fullAndWithoutACredit() {
         for (int depth = 1; depth <= 4; depth++) {
             WormMesh mesh = new WormMesh(1, 1, depth, 1);
             mesh.hold(0, true);
@@ -39,12 +45,18 @@ public final class Promise13ArrivalTest {
                 mesh.request(0, 0, true, i, 1);
             }
             mesh.run(60);
-            Due.is("arrival lane and sender, depth " + depth, depth, mesh.arrival(0, 0));
-            Due.is("input lane, depth " + depth, depth, mesh.lane(0, 0, 0) % 8);
+            Due.is("D flits and no credit, D = " + depth, depth, mesh.arrival(0, 0));
             mesh.hold(0, false);
             mesh.run(60);
-            Due.is("empty again, depth " + depth, 8 * depth, mesh.arrival(0, 0));
-            Due.is("replies(), depth " + depth, 4, mesh.replies());
+            Due.is("no flit and D credits, D = " + depth, 8 * depth, mesh.arrival(0, 0));
+            Due.is("replies(), D = " + depth, 4, mesh.replies());
         }
+    }
+
+    /** With D = 1 the sender's only credit is used with tick 1 and back with tick 5. */
+    private static void emptyAndWithoutACredit() {
+        WormMesh mesh = new WormMesh(1, 1, 1, 1);
+        mesh.request(0, 0, false, 0, 0);
+        new Watch(mesh).arrival(0, 0, 0, 0, 0, 0, 0, 0, 8).run();
     }
 }
