@@ -216,7 +216,7 @@ public final class WormMesh {
         /** The slot at the other end of the link. */
         int farSlot(int node, int side, int channel) {
             int neighbour = neighbour(node, side);
-            // A port without a neighbour is never used; it leads to itself so that it leads somewhere.
+            // A port without a neighbour is never used; it leads to itself, to have an end at all.
             return neighbour == NONE
                     ? slot(node, side, channel)
                     : slot(neighbour, opposite(side), channel);
@@ -321,14 +321,14 @@ public final class WormMesh {
         }
     }
 
-    /** What is known of every request and its reply; a flit tells its packet and if it is the last. */
+    /** All requests and their replies; a flit tells its packet, and if it is the last one. */
     private static final class Packets {
         final Grid grid;
         final int[] from = new int[MOST_REQUESTS];
         final int[] to = new int[MOST_REQUESTS];
         final boolean[] write = new boolean[MOST_REQUESTS];
         final int[] word = new int[MOST_REQUESTS];
-        // The value to write until the request is served, from then on the word that the reply bears.
+        // The value to write until the request is served, from then on the word of the reply.
         final int[] value = new int[MOST_REQUESTS];
         int made;
 
@@ -614,7 +614,7 @@ public final class WormMesh {
             for (int node = 0; node < grid.nodeCount; node++) {
                 for (int port = 0; port < PORTS; port++) {
                     for (int channel = 0; channel < grid.channelCount; channel++) {
-                        // Only an output that a lane asks for can be granted, so the lanes lead to it.
+                        // Only an output that a lane asks for can be granted.
                         int slot = grid.slot(node, port, channel);
                         if (stage[slot] == ASKING) {
                             grantIfFree(node, way[slot], channel);

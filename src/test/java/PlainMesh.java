@@ -207,7 +207,8 @@ final class PlainMesh {
             for (int k = 2 * v - 1; k >= 0; k--) {
                 int c = (node.turnOfInputPort[p] + k) % (2 * v);
                 Lane lane = node.input[p][c];
-                if (!lane.flits.isEmpty() && lane.stage == 2 && node.output[lane.way][c].credits > 0) {
+                boolean hasFlit = !lane.flits.isEmpty();
+                if (hasFlit && lane.stage == 2 && node.output[lane.way][c].credits > 0) {
                     names[p] = c;
                 }
             }

@@ -62,7 +62,7 @@ public final class Promise10WaitingTest {
         return mesh;
     }
 
-    /** The most that can wait: with tick 31 two replies begin to wait; the first has sent a flit. */
+    /** The most that can wait: two replies begin to wait with tick 31; one has sent a flit. */
     private static void fourRequestsAndTwoReplies() {
         WormMesh mesh = twoReadsHeld();
         for (int i = 0; i < 4; i++) {

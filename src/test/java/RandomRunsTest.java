@@ -68,7 +68,10 @@ public final class RandomRunsTest {
 
     /** Mostly a number below the bound, at times one that is just out of it. */
     private int below(int bound) {
-        return random.nextInt(40) == 0 ? (random.nextBoolean() ? -1 : bound) : random.nextInt(bound);
+        if (random.nextInt(40) == 0) {
+            return random.nextBoolean() ? -1 : bound;
+        }
+        return random.nextInt(bound);
     }
 
     private int node() {
@@ -107,12 +110,16 @@ public final class RandomRunsTest {
             }
             case 4 -> {
                 int word = below(8);
-                due("memory " + node + " " + word, plain.memory(node, word), mesh.memory(node, word));
+                String call = "memory " + node + " " + word;
+                due(call, plain.memory(node, word), mesh.memory(node, word));
             }
             case 5 -> due("waiting " + node, plain.waiting(node), mesh.waiting(node));
-            case 6 -> due("lane " + place, plain.lane(node, port, channel), mesh.lane(node, port, channel));
-            case 7 -> due("output " + place, plain.output(node, port, channel), mesh.output(node, port, channel));
-            default -> due("arrival " + place, plain.arrival(node, channel), mesh.arrival(node, channel));
+            case 6 -> due("lane " + place,
+                    plain.lane(node, port, channel), mesh.lane(node, port, channel));
+            case 7 -> due("output " + place,
+                    plain.output(node, port, channel), mesh.output(node, port, channel));
+            default -> due("arrival " + place,
+                    plain.arrival(node, channel), mesh.arrival(node, channel));
         }
     }
 }

@@ -5,7 +5,8 @@ final class State {
 
     static String of(WormMesh mesh) {
         StringBuilder text = new StringBuilder();
-        text.append(mesh.ticks()).append(' ').append(mesh.sent()).append(' ').append(mesh.replies());
+        text.append(mesh.ticks()).append(' ').append(mesh.sent());
+        text.append(' ').append(mesh.replies());
         for (int node = 0; node < mesh.nodes(); node++) {
             text.append("; ").append(mesh.waiting(node));
             for (int word = 0; word < 8; word++) {

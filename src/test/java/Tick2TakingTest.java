@@ -127,7 +127,7 @@ public final class Tick2TakingTest {
         new Watch(mesh).arrival(0, 0, 16, 24, 33, 33).output(0, 0, 0, 10, 2, 3, 3).run();
     }
 
-    /** Both flits of a reply are taken at a held node: it is the asked node that is held or not. */
+    /** It is only requests that a held node keeps: both flits of a reply are taken there. */
     private static void flitsOfRepliesWhileHeld() {
         for (int write = 0; write <= 1; write++) {
             WormMesh mesh = new WormMesh(2, 1, 4, 1);

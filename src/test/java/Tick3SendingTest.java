@@ -39,7 +39,7 @@ public final class Tick3SendingTest {
                 .run();
     }
 
-    /** With D = 2 the second read has sent one flit with tick 5; a reply goes before its other one. */
+    /** With D = 2 the second read has sent a flit in tick 5; a reply goes before its other one. */
     private static void replyBetweenTheFlitsOfARequest() {
         WormMesh mesh = new WormMesh(1, 1, 2, 1);
         mesh.request(0, 0, false, 0, 0);
@@ -79,7 +79,7 @@ public final class Tick3SendingTest {
                 .run();
     }
 
-    /** "if the sender of its channel has a credit ... otherwise none": in tick 9 neither has one. */
+    /** "if the sender of its channel has a credit ... otherwise none": neither has in tick 9. */
     private static void noneWithoutACredit() {
         WormMesh mesh = twoReads();
         mesh.run(2);

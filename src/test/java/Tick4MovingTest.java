@@ -26,7 +26,7 @@ public final class Tick4MovingTest {
 
     /**
      * "READY when it has a flit": two flits of a write from node 1 to the west have gone, the
-     * third waits for a reply. In tick 11 the lane is in stage 2 and there is a credit, but no flit.
+     * third waits for a reply. In tick 11 the lane has stage 2, and there is a credit, but no flit.
      */
     private static void notWithoutAFlit() {
         WormMesh mesh = new WormMesh(2, 1, 1, 1);

@@ -145,7 +145,7 @@ public final class Tick5GrantingTest {
         Due.is("then EAST", 2, mesh.reply(2, 0));
     }
 
-    /** "port by port, from 4 on to 0": after LOCAL had it the turn is 1, and LOCAL gets it again. */
+    /** "port by port, from 4 on to 0": after LOCAL the turn is 1, and LOCAL gets it again. */
     private static void from4OnTo0() {
         WormMesh mesh = new WormMesh(1, 1, 4, 1);
         for (int i = 0; i < 4; i++) {

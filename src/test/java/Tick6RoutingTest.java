@@ -73,7 +73,7 @@ public final class Tick6RoutingTest {
         new Watch(mesh).lane(0, 0, 0, 0, 73, 81, 80, 80, 81, 81, 80, 80, 0).run();
     }
 
-    /** The last flit leaves in tick 6 and the next packet's first flit is there: stage 1 at once. */
+    /** The last flit leaves in tick 6, the next packet's first flit is there: stage 1 at once. */
     private static void theNextPacketAtOnce() {
         WormMesh mesh = new WormMesh(2, 1, 4, 1);
         mesh.request(0, 1, true, 0, 1);

@@ -2,7 +2,7 @@ import java.util.ArrayList;
 import java.util.List;
 import java.util.function.IntSupplier;
 
-/** Lets ticks go by one at a time, and looks after each of them: one answer is due for each tick. */
+/** Lets ticks go by one at a time and looks after each: one answer is due for each tick. */
 final class Watch {
     private record Row(String call, IntSupplier look, int[] due) {
     }
@@ -25,7 +25,8 @@ final class Watch {
     }
 
     Watch arrival(int node, int channel, int... due) {
-        return add("arrival(" + node + ", " + channel + ")", () -> mesh.arrival(node, channel), due);
+        String call = "arrival(" + node + ", " + channel + ")";
+        return add(call, () -> mesh.arrival(node, channel), due);
     }
 
     Watch waiting(int node, int... due) {
